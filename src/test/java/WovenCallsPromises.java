@@ -415,23 +415,25 @@ public final class WovenCallsPromises {
     }
 
     private static void undoFarther() {
-        WovenCalls x = woven("m0e1;m1e2e3;m2;a7,4,6,10,6;b8,4,6,3,0;o9,4,6,10,6;");
-        x.state(1, 1, 1, 2);
+        WovenCalls x = woven("m0e1;m1e2e3;m1;a7,4,6,10,6;b8,4,6,3,0;o9,4,6,10,6;");
+        x.state(1, 0, 1, 2);
         x.belong(2, 3);
         x.swap(2, 1);
-        x.state(1, 1, 2, 5);
+        x.state(1, 0, 2, 5);
+        x.state(1, 1, 2, 6);
+        due("undo()", x.undo(), 4);
+        due("method(1, 11)", x.method(1, 11), 0);
+        due("method(1, 21)", x.method(1, 21), 3);
         due("undo()", x.undo(), 3);
-        due("method(1, 11)", x.method(1, 11), 1);
-        due("method(1, 21)", x.method(1, 21), 2);
+        due("method(1, 10)", x.method(1, 10), 1);
+        due("method(1, 20)", x.method(1, 20), 2);
         due("undo()", x.undo(), 2);
         for (int a = 0; a < 3; a++) due("advice(" + a + ", 0)", x.advice(a, 0), 7 + a);
         due("undo()", x.undo(), 1);
-        due("method(2, 0)", x.method(2, 0), 2);
+        due("method(2, 0)", x.method(2, 0), 1);
         due("undo()", x.undo(), 0);
         due("method(1, 10)", x.method(1, 10), 0);
         due("method(1, 20)", x.method(1, 20), 2);
-        due("method(1, 11)", x.method(1, 11), 0);
-        due("method(1, 21)", x.method(1, 21), 3);
         due("method(0, 20)", x.method(0, 20), 1);
     }
 
