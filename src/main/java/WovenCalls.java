@@ -596,8 +596,12 @@ public final class WovenCalls {
             fault = 0;
             next = 0;
             step();
-            readMethods(into);
-            readAllAdvice(into);
+            for (int i = 0; i <= MOST_METHODS && fault == 0 && (i == 0 || token == 'm'); i++) {
+                readMethod(into);
+            }
+            for (int i = 0; i <= MOST_ADVICE && fault == 0 && kindOf(token) != 0; i++) {
+                readAdvice(into);
+            }
             if (token != END) {
                 faultBy(MISPLACED);
             } else if (fault == 0 && !into.callsOnlyWhatIsThere()) {
@@ -605,12 +609,6 @@ public final class WovenCalls {
             }
             size = 0;
             return fault;
-        }
-
-        private void readMethods(Weave into) {
-            for (int i = 0; i <= MOST_METHODS && fault == 0 && (i == 0 || token == 'm'); i++) {
-                readMethod(into);
-            }
         }
 
         private void readMethod(Weave into) {
@@ -640,12 +638,6 @@ public final class WovenCalls {
             int least = sort == CALL ? 0 : 1;
             int most = sort == EMIT ? 99 : sort == CALL ? MOST_METHODS - 1 : 9;
             into.addStatement(sort, readNumber(least, most));
-        }
-
-        private void readAllAdvice(Weave into) {
-            for (int i = 0; i <= MOST_ADVICE && fault == 0 && kindOf(token) != 0; i++) {
-                readAdvice(into);
-            }
         }
 
         private void readAdvice(Weave into) {
@@ -701,34 +693,30 @@ public final class WovenCalls {
             }
         }
 
+        /** A run of figures may make the value wrap around, but then it is too long and none reads it. */
         private void step() {
             start = next;
-            if (start >= size) {
-                token = END;
-            } else if (isFigure(bytes[start])) {
-                stepOverFigures();
-            } else {
-                token = isWithin(bytes[start], 'a', 'z') || isSign(bytes[start]) ? bytes[start] : WRONG;
-                next = start + 1;
-            }
-        }
-
-        private void stepOverFigures() {
             value = 0;
-            next = start;
             while (next < size && isFigure(bytes[next])) {
                 value = value * 10 + bytes[next] - '0';
                 next++;
             }
-            token = next - start > 2 ? WRONG : NUMBER;
+            if (next > start) {
+                token = next - start > 2 ? WRONG : NUMBER;
+            } else if (start >= size) {
+                token = END;
+            } else {
+                token = isLetterOrSign(bytes[start]) ? bytes[start] : WRONG;
+                next++;
+            }
         }
 
         private static boolean isFigure(int letter) {
             return isWithin(letter, '0', '9');
         }
 
-        private static boolean isSign(int letter) {
-            return letter == ',' || letter == ';';
+        private static boolean isLetterOrSign(int letter) {
+            return isWithin(letter, 'a', 'z') || letter == ',' || letter == ';';
         }
 
         private static int sortOf(int letter) {
@@ -881,8 +869,9 @@ public final class WovenCalls {
         private int calledBy(int method) {
             int bits = 0;
             for (int i = 0; i < lengths[method]; i++) {
-                if (sort(method, i) == CALL) {
-                    bits |= 1 << operand(method, i);
+                int at = method * MOST_STATEMENTS + i;
+                if (sorts[at] == CALL) {
+                    bits |= 1 << operands[at];
                 }
             }
             return bits;
@@ -892,19 +881,11 @@ public final class WovenCalls {
         int reachedFrom(int method) {
             int reached = calledBy(method);
             for (int round = 1; round < methods; round++) {
-                reached |= calledByAny(reached);
-            }
-            return reached;
-        }
-
-        private int calledByAny(int some) {
-            int bits = 0;
-            for (int m = 0; m < methods; m++) {
-                if (hasBit(some, m)) {
-                    bits |= calledBy(m);
+                for (int m = 0; m < methods; m++) {
+                    reached |= hasBit(reached, m) ? calledBy(m) : 0;
                 }
             }
-            return bits;
+            return reached;
         }
 
         /** What class and method of an advice say of a method: no run can change it. */
@@ -917,17 +898,12 @@ public final class WovenCalls {
         int known(int method, int advice) {
             int below = fact(advice, BELOW_FACT);
             int flow = fact(advice, FLOW_FACT);
-            if (!isAbout(method, advice) || below == 0 || !mayBeWithin(method, flow)) {
+            boolean flowsAlways = flow == NO_FLOW || flow == method;
+            boolean flowsNever = !flowsAlways && (flow >= methods || !hasBit(reachedFrom(flow), method));
+            if (!isAbout(method, advice) || below == 0 || flowsNever) {
                 return NEVER;
             }
-            return below == EVERY_ARGUMENT && (flow == NO_FLOW || flow == method) ? ALWAYS : TESTED;
-        }
-
-        private boolean mayBeWithin(int method, int flow) {
-            if (flow == NO_FLOW || flow == method) {
-                return true;
-            }
-            return flow < methods && hasBit(reachedFrom(flow), method);
+            return below == EVERY_ARGUMENT && flowsAlways ? ALWAYS : TESTED;
         }
 
         int testedAbout(int method) {

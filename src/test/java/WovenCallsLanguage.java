@@ -6,7 +6,9 @@ import java.nio.file.Files;
 import java.nio.file.Path;
 import java.util.HashSet;
 import java.util.List;
+import java.util.Map;
 import java.util.Set;
+import java.util.TreeMap;
 import java.util.TreeSet;
 import java.util.regex.Matcher;
 import java.util.regex.Pattern;
@@ -89,6 +91,7 @@ public final class WovenCallsLanguage {
             hold(held, "made in a constructor: " + line.trim());
         }
         checkLengths(code);
+        checkDepth(callsByName(code));
     }
 
     /** From a method's first line to the brace that ends it, told by how far it stands in. */
@@ -100,6 +103,53 @@ public final class WovenCallsLanguage {
             int end = i;
             while (end < lines.length && !lines[end].equals(head.group(1) + "}")) end++;
             hold(end - i <= 60, "at most sixty lines: " + lines[i].trim());
+        }
+    }
+
+    /** Of each method's name the names that are called in it; methods of one name in two classes count as one. */
+    private static Map<String, Set<String>> callsByName(String code) {
+        Map<String, Set<String>> calls = new TreeMap<>();
+        String name = null;
+        for (String line : code.split("\n")) {
+            Matcher head = Pattern.compile("^(?:    |        )(?! )(?!.*\\bclass\\b)(?!if|for|while|switch|}).*?(\\w+)\\(.*\\) \\{$").matcher(line);
+            if (head.matches()) {
+                name = head.group(1);
+                calls.putIfAbsent(name, new TreeSet<>());
+                continue;
+            }
+            Matcher call = Pattern.compile("(\\w+)\\(").matcher(line);
+            while (name != null && call.find()) calls.get(name).add(call.group(1));
+        }
+        for (Set<String> called : calls.values()) called.retainAll(calls.keySet());
+        return calls;
+    }
+
+    private static Set<String> within(Map<String, Set<String>> calls, String name) {
+        Set<String> seen = new TreeSet<>(calls.get(name));
+        int before = -1;
+        while (before != seen.size()) {
+            before = seen.size();
+            for (String s : List.copyOf(seen)) seen.addAll(calls.get(s));
+        }
+        return seen;
+    }
+
+    /** Methods that call one another in a circle count once, as the rule leaves recursion out. */
+    private static int depth(Map<String, Set<String>> calls, String name) {
+        Set<String> circle = new TreeSet<>(Set.of(name));
+        for (String s : within(calls, name)) if (within(calls, s).contains(name)) circle.add(s);
+        int most = 0;
+        for (String s : circle) {
+            for (String called : calls.get(s)) if (!circle.contains(called)) most = Math.max(most, depth(calls, called));
+        }
+        return 1 + most;
+    }
+
+    private static void checkDepth(Map<String, Set<String>> calls) {
+        hold(calls.size() > FACE.size(), "the methods are found");
+        for (String name : calls.keySet()) {
+            int depth = depth(calls, name);
+            hold(depth <= 8, name + " goes at most eight calls deep, but " + depth);
         }
     }
 
