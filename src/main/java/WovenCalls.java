@@ -712,11 +712,11 @@ public final class WovenCalls {
         }
 
         private static boolean isFigure(int letter) {
-            return isWithin(letter, '0', '9');
+            return letter >= '0' && letter <= '9';
         }
 
         private static boolean isLetterOrSign(int letter) {
-            return isWithin(letter, 'a', 'z') || letter == ',' || letter == ';';
+            return letter >= 'a' && letter <= 'z' || letter == ',' || letter == ';';
         }
 
         private static int sortOf(int letter) {
